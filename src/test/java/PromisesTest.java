@@ -44,6 +44,7 @@ public final class PromisesTest {
         restore();
         count();
         digest();
+        fullCity();
         refusalsChangeNothing();
         questionsChangeNothing();
         Check.finish();
@@ -612,6 +613,13 @@ public final class PromisesTest {
         due("18: a fee for each month", loss.whom(0, 2, 0), 1);
         due("18: it is not worth three", loss.whom(0, 3, 0), 0);
         due("18: so nobody", loss.whom(0, 3, 1), 0);
+        // Thieves 0 and 1 take for 2 in all what thief 2 alone takes for 2.
+        ThievesPaid alone = Check.city("011,011,s012");
+        alone.spoon(1, 5);
+        alone.spoon(1, 5);
+        alone.dog(0, true);
+        due("18: one or two gain as much", alone.whom(0, 1, 0), 8);
+        due("18: fewest goes ahead of least bits", alone.whom(0, 1, 1), 4);
         ThievesPaid two = Check.city("010,020");
         two.spoon(1, 7);
         two.spoon(2, 7);
@@ -745,6 +753,9 @@ public final class PromisesTest {
         due("23: all at home", x.fewest(), 0);
         x.month();
         due("23: one payment", x.fewest(), 1);
+        x.paid(0, false);
+        x.month();
+        due("23: home again", x.fewest(), 0);
 
         // A round of like spoons: each owes, and is owed, the same.
         ThievesPaid round = Check.city("010,120,200");
@@ -835,8 +846,29 @@ public final class PromisesTest {
         due("24: what -1", x.months(1, 1, -1), OUTSIDE);
         due("24: no contracts", new ThievesPaid().months(1, 0, 0), STATE);
         due("24: no contracts, times", new ThievesPaid().months(0, 0, 0), OUTSIDE);
+        ThievesPaid toAndFro = Check.city("010,100");
+        toAndFro.spoon(1, 9);
+        toAndFro.tenths(0, 4);
+        toAndFro.tenths(1, 5);
+        due("24: sixty months, taken", toAndFro.months(60, 2026, 1), takenToAndFro());
         ThievesPaid honest = Check.city("h010");
         due("24: a draw for the honest one, too", honest.months(1, 0, 2), 12345);
+    }
+
+    /** One spoon to and fro for sixty months by 4 and 5 tenths. */
+    private static int takenToAndFro() {
+        long seed = 2026;
+        int house = 1;
+        int taken = 0;
+        for (int draw = 0; draw < 120; draw++) {
+            seed = nextSeed(seed);
+            int from = draw % 2 == 0 ? 1 : 0;
+            if ((seed >> 16) % 10 < (draw % 2 == 0 ? 4 : 5) && house == from) {
+                house = 1 - from;
+                taken++;
+            }
+        }
+        return taken;
     }
 
     private static long nextSeed(long seed) {
@@ -860,6 +892,7 @@ public final class PromisesTest {
     private static void restore() {
         ThievesPaid x = Check.city("014,123");
         due("26: none was kept", x.restore(), STATE);
+        due("26: none was kept by a new one", new ThievesPaid().restore(), STATE);
         x.spoon(1, 10);
         x.spoon(2, 20);
         x.lock(5, 6);
@@ -970,6 +1003,9 @@ public final class PromisesTest {
         due("28: with contracts", x.digest(), digestAsTold(x, "m"));
         x.month();
         due("28: behind a month", x.digest(), digestAsTold(x, "m"));
+        ThievesPaid one = Check.city("015");
+        one.spoon(1, 3);
+        due("28: with one thief", one.digest(), digestAsTold(one, ""));
     }
 
     /** The digest by what the other calls tell. */
@@ -1010,6 +1046,29 @@ public final class PromisesTest {
             h = 31 * h + x.count(what);
         }
         return h;
+    }
+
+    /** Eight thieves and eight spoons, so that each row is used to its last place. */
+    private static void fullCity() {
+        ThievesPaid x = Check.city("010,010,010,010,010,010,010,019");
+        for (int s = 0; s < 8; s++) {
+            x.spoon(1, 8 + s);
+        }
+        x.seen(7, 0);
+        due("full: worth", x.worth(1), 92);
+        due("full: who", x.who(), 511);
+        due("full: where", x.where(0, 1), 0);
+        due("full: still", x.still(), 1);
+        // Not paid, the last one would rob 15 and leave 8 where it is: more than his fee.
+        due("full: whom", x.whom(0, 1, 1), 255);
+        due("full: how much", x.whom(0, 1, 0), 92 - 9);
+        due("full: taken by a seed", x.months(1, 0, 1), 8);
+        due("full: at home by a seed", x.months(1, 0, 0), 0);
+        due("full: month", x.month(), 8);
+        due("full: owes", x.owes(0, 1), 92);
+        due("full: away", x.count(5), 8);
+        due("full: fewest", x.fewest(), 1);
+        due("full: digest", x.digest(), digestAsTold(x, ""));
     }
 
     private static void refusalsChangeNothing() {
