@@ -15,6 +15,8 @@ import java.util.TreeSet;
 
 /** That the class has the document's face, keeps to what of LANGUAGE.md a program can see, and makes next to nothing in a run. */
 public final class RulesTest {
+    /** With those that make the city, and two calls at a time, an object's 512 calls. */
+    private static final int DEAR = 247;
     private static final String[] FACE = {
         "int letters(long)", "int blank()", "int fault()", "int contracts()", "int about(int,int)", "int as(int,int)",
         "int paid(int,boolean)", "int tenths(int,int)", "int lock(int,int)", "int dog(int,boolean)", "int spoon(int,int)",
@@ -136,28 +138,33 @@ public final class RulesTest {
         }
     }
 
-    /** A run has room for 600,000 objects and 7.3 million fields; 512 of the dearest calls must stay far below. */
+    /** A run has room for 600,000 objects and 7.3 million fields; the dearest calls must stay far below. */
     private static void room() {
         if (!(ManagementFactory.getThreadMXBean() instanceof com.sun.management.ThreadMXBean threads)) {
             System.out.println("this machine does not tell what a thread makes");
             return;
         }
         long id = Thread.currentThread().getId();
+        long text = Check.codes("s015");
+        String[] names = {"whom", "digest", "chance", "months", "where", "still", "who", "fewest", "image", "contracts"};
+        for (int which = 0; which < names.length; which++) {
+            ThievesPaid x = fullCity();
+            dear(x, which, text);
+            long before = threads.getThreadAllocatedBytes(id);
+            for (int i = 0; i < DEAR; i++) {
+                dear(x, which, text);
+            }
+            long made = threads.getThreadAllocatedBytes(id) - before;
+            Check.holds(names[which] + " " + DEAR + " times makes little: " + made, made < DEAR * 8 * 64);
+        }
+    }
+
+    private static ThievesPaid fullCity() {
         ThievesPaid x = Check.city("010,021,032,043,054,065,076,s017");
         for (int s = 0; s < 8; s++) {
             x.spoon(s, 9 + s);
         }
-        long text = Check.codes("s015");
-        String[] names = {"whom", "digest", "chance", "months", "where", "still", "who", "fewest", "image", "contracts"};
-        for (int which = 0; which < names.length; which++) {
-            dear(x, which, text);
-            long before = threads.getThreadAllocatedBytes(id);
-            for (int i = 0; i < 512; i++) {
-                dear(x, which, text);
-            }
-            long made = threads.getThreadAllocatedBytes(id) - before;
-            Check.holds(names[which] + " 512 times makes little: " + made, made < 512 * 8 * 64);
-        }
+        return x;
     }
 
     private static void dear(ThievesPaid x, int which, long text) {
