@@ -10,8 +10,12 @@ import java.nio.file.Path;
 import java.util.ArrayList;
 import java.util.Arrays;
 import java.util.List;
+import java.util.Map;
 import java.util.Set;
+import java.util.TreeMap;
 import java.util.TreeSet;
+import java.util.regex.Matcher;
+import java.util.regex.Pattern;
 
 /** That the class has the document's face, keeps to what of LANGUAGE.md a program can see, and makes next to nothing in a run. */
 public final class RulesTest {
@@ -116,12 +120,46 @@ public final class RulesTest {
         Check.holds("no texts", code.indexOf('"') < 0);
         Check.holds("signs 1 to 127", whole.chars().allMatch(c -> c >= 1 && c <= 127));
         // Of the library only these names are followed by a dot and a call.
-        java.util.regex.Matcher calls = java.util.regex.Pattern.compile("\\b([A-Z][A-Za-z]+)\\.([a-z][A-Za-z]*)\\(").matcher(code);
+        Matcher calls = Pattern.compile("\\b([A-Z][A-Za-z]+)\\.([a-z][A-Za-z]*)\\(").matcher(code);
         while (calls.find()) {
             String call = calls.group(1) + "." + calls.group(2);
             Check.holds("library: " + call, Set.of("Math.max", "Integer.bitCount", "Integer.numberOfTrailingZeros").contains(call));
         }
         shortMethods(whole);
+        shallowCalls(code);
+    }
+
+    /** Methods of one name count as one, so that a call of a kind's method is as deep as its deepest. */
+    private static void shallowCalls(String code) {
+        Map<String, Set<String>> calls = new TreeMap<>();
+        String method = null;
+        for (String line : code.split("\n")) {
+            Matcher head = Pattern.compile(" {4}(?: {4})?(?!if|for|while|switch)[a-zA-Z].*?(\\w+)\\(.*\\) \\{").matcher(line);
+            if (head.matches()) {
+                method = head.group(1);
+                calls.putIfAbsent(method, new TreeSet<>());
+            } else if (method != null) {
+                Matcher call = Pattern.compile("(\\w+)\\(").matcher(line);
+                while (call.find()) {
+                    calls.get(method).add(call.group(1));
+                }
+            }
+        }
+        Check.holds("methods were found", calls.keySet().containsAll(Set.of("digest", "monthWithout", "likesBetter", "takesFee")));
+        for (String name : calls.keySet()) {
+            int deep = depth(calls, name, 0);
+            Check.holds(name + " goes at most eight calls deep: " + deep, deep <= 8);
+        }
+    }
+
+    private static int depth(Map<String, Set<String>> calls, String name, int above) {
+        int deepest = 0;
+        // Beyond nine it is too deep in any case, and a method that calls itself has no end.
+        for (String called : above > 9 ? Set.<String>of() : calls.getOrDefault(name, Set.of())) {
+            boolean isKeyword = Set.of("if", "for", "while", "switch", "super", "return").contains(called);
+            deepest = Math.max(deepest, isKeyword ? 0 : depth(calls, called, above + 1));
+        }
+        return deepest + 1;
     }
 
     private static void shortMethods(String whole) {
